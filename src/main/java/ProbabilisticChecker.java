@@ -574,24 +574,18 @@ public final class ProbabilisticChecker {
             return set;
         }
 
+        /** The states that are reached back from each state that they reach. */
         int bottomStates() {
-            int set = 0;
+            int set = all();
             for (int state = 0; state < size; state++) {
-                if (isBottom(state)) {
-                    set |= 1 << state;
+                int reached = reachedFrom(state);
+                for (int other = 0; other < size; other++) {
+                    if (contains(reached, other) && !contains(reachedFrom(other), state)) {
+                        set &= ~(1 << state);
+                    }
                 }
             }
             return set;
-        }
-
-        private boolean isBottom(int state) {
-            int reached = reachedFrom(state);
-            for (int other = 0; other < size; other++) {
-                if (contains(reached, other) && !contains(reachedFrom(other), state)) {
-                    return false;
-                }
-            }
-            return true;
         }
 
         /** The states of goal, and those of through from which a path in through leads to goal. */
@@ -741,24 +735,18 @@ public final class ProbabilisticChecker {
                 if (!chain.has(state)) {
                     continue;
                 }
-                int twin = lowestAlike(state);
-                if (twin < state && twin >= 0) {
-                    finer[state] = finer[twin];
-                } else {
-                    finer[state] = found;
+                int number = found;
+                for (int other = 0; other < state && number == found; other++) {
+                    if (isAlike(other, state)) {
+                        number = finer[other];
+                    }
+                }
+                finer[state] = number;
+                if (number == found) {
                     found++;
                 }
             }
             return found;
-        }
-
-        private int lowestAlike(int state) {
-            for (int other = 0; other < state; other++) {
-                if (isAlike(other, state)) {
-                    return other;
-                }
-            }
-            return state;
         }
 
         private boolean isAlike(int one, int other) {

@@ -134,6 +134,7 @@ public final class ChainTest {
         ProbabilisticChecker x = withStates(3);
         DUE.is("8: first", x.setLabels(1, 15), 0);
         DUE.is("8: previous", x.setLabels(1, 6), 15);
+        DUE.is("8: none again", x.setLabels(2, 0), 0);
         DUE.is("8: 16", x.setLabels(1, 16), BAD);
         DUE.is("8: -1", x.setLabels(1, -1), BAD);
         DUE.is("9: labels", x.labels(1), 6);
@@ -148,6 +149,7 @@ public final class ChainTest {
         ProbabilisticChecker x = withStates(3);
         DUE.is("10: first", x.setReward(2, 9), 0);
         DUE.is("10: previous", x.setReward(2, 4), 9);
+        DUE.is("10: none", x.setReward(1, 0), 0);
         DUE.is("10: 10", x.setReward(2, 10), BAD);
         DUE.is("10: -1", x.setReward(2, -1), BAD);
         DUE.is("11: reward", x.reward(2), 4);
@@ -207,6 +209,10 @@ public final class ChainTest {
         DUE.is("14: a loop to itself", x.bottoms(), 28);
         x.setWeight(3, 4, 1);
         DUE.is("14: transient", x.bottoms(), 20);
+        ProbabilisticChecker y = withStates(3);
+        y.setWeight(2, 1, 1);
+        y.setWeight(1, 0, 1);
+        DUE.is("14: all to 0", y.bottoms(), 1);
         DUE.is("14: no states", new ProbabilisticChecker().bottoms(), 0);
     }
 

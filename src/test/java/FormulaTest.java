@@ -119,6 +119,7 @@ public final class FormulaTest {
         DUE.is("19: a sixth one, P", add(x, "!!!!!P<1[Xa]"), -105);
         DUE.is("19: a sixth one, S", add(x, "!!!!!S<1[a]"), -105);
         DUE.is("19: a sixth one, R", add(x, "!!!!!R<1[a]"), -105);
+        DUE.is("19: in the first of a pair", add(x, "(!!!!!a|t)"), -105);
         DUE.is("19: side by side they do not count", add(x, "(!!!!a|!!!!a)"), 2);
         DUE.is("19: the second one is too deep", add(x, "(!!!!a|!!!!!a)"), -111);
         DUE.is("19: behind the comma", add(x, "P<1[U!!!!a,!!!!!a]"), -115);

@@ -8,6 +8,7 @@ public final class PathTest {
     public static void main(String[] args) {
         bestPath();
         bestPathOfEqualProducts();
+        bestPathOfOneProduct();
         bestPathErrors();
         bestProduct();
         walk();
@@ -79,6 +80,23 @@ public final class PathTest {
         isPath("34: 2/4 of 1/2 is the same as 1/4", x, 1, 0, 0, 1, 4, 6);
         x.setWeight(2, 5, 3);
         isPath("34: 2/4 of 3/5 is better", x, 1, 0, 0, 2, 5, 6);
+    }
+
+    /** The shorter way is found first, the longer one with the same product later, and the other way round. */
+    private static void bestPathOfOneProduct() {
+        int[][] ways = {{1, 2, 3}, {3, 1, 2}};
+        for (int[] way : ways) {
+            ProbabilisticChecker x = ChainTest.withStates(5);
+            x.setWeight(0, way[0], 1);
+            x.setWeight(0, way[1], 1);
+            x.setWeight(way[0], 4, 1);
+            x.setWeight(way[1], way[2], 1);
+            x.setWeight(way[2], 4, 1);
+            x.setLabels(4, 1);
+            FormulaTest.add(x, "a");
+            FormulaTest.add(x, "t");
+            isPath("34: the shorter way", x, 1, 0, 0, way[0], 4);
+        }
     }
 
     private static void bestPathErrors() {

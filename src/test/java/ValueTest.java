@@ -24,6 +24,7 @@ public final class ValueTest {
         share();
         expected();
         greatNumbers();
+        deepFormulas();
         DUE.end();
     }
 
@@ -257,6 +258,29 @@ public final class ValueTest {
         refine(x);
         DUE.is("33: refused", x.expected(FINE, 0, 0), REFUSED);
         DUE.is("33: BAD comes before REFUSED", x.expected(FINE, 8, 0), BAD);
+    }
+
+    /** Five formulas inside one another, in every place that takes one, answer like the plain one. */
+    private static void deepFormulas() {
+        ProbabilisticChecker x = FormulaTest.gamble();
+        int deep = FormulaTest.add(x, "!!!!(a|b)");
+        int plain = FormulaTest.add(x, "(a|b)");
+        int leaf = FormulaTest.add(x, "!!!!!d");
+        int notD = FormulaTest.add(x, "!d");
+        DUE.is("24: deep", x.holdsIn(deep), 12);
+        DUE.is("24: deep leaf", x.holdsIn(leaf), 13);
+        for (int s = 0; s < 4; s++) {
+            DUE.is("25: deep", x.holds(leaf, s), x.holds(notD, s));
+            DUE.is("26: deep", x.next(deep, s, 1), x.next(plain, s, 1));
+            DUE.is("27: deep", x.until(leaf, deep, s, 1), x.until(notD, plain, s, 1));
+            DUE.is("28: deep", x.within(leaf, deep, 3, s, 1), x.within(notD, plain, 3, s, 1));
+            DUE.is("31: deep", x.steady(deep, s, 0), x.steady(plain, s, 0));
+            DUE.is("33: deep", x.expected(deep, s, 0), x.expected(plain, s, 0));
+            DUE.is("34: deep", x.bestPath(leaf, deep, s, -1), x.bestPath(notD, plain, s, -1));
+            DUE.is("35: deep", x.bestProduct(leaf, deep, s, 1), x.bestProduct(notD, plain, s, 1));
+        }
+        DUE.is("29: deep", x.never(leaf, deep), x.never(notD, plain));
+        DUE.is("30: deep", x.surely(leaf, deep), x.surely(notD, plain));
     }
 
     /** Seven states, each of which goes on by 1 of 10 and back to the first one by 9 of 10. */
