@@ -40,12 +40,12 @@ public final class RandomTest {
 
     /** Mostly a state that there is. */
     private int state() {
-        int n = x.stateCount();
+        int n = y.stateCount();
         return below(40) == 0 || n == 0 ? below(12) - 2 : below(n);
     }
 
     private int formula() {
-        int n = x.formulaCount();
+        int n = y.formulaCount();
         return below(40) == 0 || n == 0 ? below(9) - 1 : below(n);
     }
 
