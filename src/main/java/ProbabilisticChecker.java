@@ -27,7 +27,6 @@ public final class ProbabilisticChecker {
     private final History history;
     private final Lumping lumping;
     private final Model model;
-    private final Evaluator evaluator;
     private final BestPaths paths;
     private final StringBuilder buffer;
     private final Formula[] formulas;
@@ -36,13 +35,11 @@ public final class ProbabilisticChecker {
 
     public ProbabilisticChecker() {
         Chain ownChain = new Chain();
-        Model ownModel = new Model(ownChain);
         chain = ownChain;
         snapshot = new Chain();
         history = new History();
         lumping = new Lumping(ownChain);
-        model = ownModel;
-        evaluator = new Evaluator(ownChain, ownModel);
+        model = new Model(ownChain);
         paths = new BestPaths(ownChain);
         buffer = new StringBuilder();
         formulas = new Formula[MOST_FORMULAS];
@@ -217,7 +214,7 @@ public final class ProbabilisticChecker {
 
     public int holdsIn(int formula) {
         int error = errorOf(formula, formula, true);
-        return error != 0 ? error : evaluator.statesOf(rootOf(formula), 0);
+        return error != 0 ? error : statesOf(rootOf(formula), model, 0);
     }
 
     public int holds(int formula, int state) {
@@ -225,7 +222,7 @@ public final class ProbabilisticChecker {
         if (error != 0) {
             return error;
         }
-        return contains(evaluator.statesOf(rootOf(formula), 0), state) ? 1 : 0;
+        return contains(statesOf(rootOf(formula), model, 0), state) ? 1 : 0;
     }
 
     // Probabilities and rewards
@@ -235,7 +232,7 @@ public final class ProbabilisticChecker {
         if (error != 0) {
             return error;
         }
-        model.solveStep(evaluator.statesOf(rootOf(first), 0));
+        model.solveStep(statesOf(rootOf(first), model, 0));
         return model.part(state, part);
     }
 
@@ -244,8 +241,8 @@ public final class ProbabilisticChecker {
         if (error != 0) {
             return error;
         }
-        int through = evaluator.statesOf(rootOf(first), 0);
-        model.solveUntil(through, evaluator.statesOf(rootOf(second), 0));
+        int through = statesOf(rootOf(first), model, 0);
+        model.solveUntil(through, statesOf(rootOf(second), model, 0));
         return model.part(state, part);
     }
 
@@ -257,8 +254,8 @@ public final class ProbabilisticChecker {
         if (model.refuses(steps)) {
             return REFUSED;
         }
-        int through = evaluator.statesOf(rootOf(first), 0);
-        model.countWithin(through, evaluator.statesOf(rootOf(second), 0), steps);
+        int through = statesOf(rootOf(first), model, 0);
+        model.countWithin(through, statesOf(rootOf(second), model, 0), steps);
         return model.part(state, part);
     }
 
@@ -267,8 +264,8 @@ public final class ProbabilisticChecker {
         if (error != 0) {
             return error;
         }
-        int through = evaluator.statesOf(rootOf(first), 0);
-        return chain.neverUntil(through, evaluator.statesOf(rootOf(second), 0));
+        int through = statesOf(rootOf(first), model, 0);
+        return chain.neverUntil(through, statesOf(rootOf(second), model, 0));
     }
 
     public int surely(int first, int second) {
@@ -276,8 +273,8 @@ public final class ProbabilisticChecker {
         if (error != 0) {
             return error;
         }
-        int through = evaluator.statesOf(rootOf(first), 0);
-        return chain.surelyUntil(through, evaluator.statesOf(rootOf(second), 0));
+        int through = statesOf(rootOf(first), model, 0);
+        return chain.surelyUntil(through, statesOf(rootOf(second), model, 0));
     }
 
     public long steady(int first, int state, int part) {
@@ -285,7 +282,7 @@ public final class ProbabilisticChecker {
         if (error != 0) {
             return error;
         }
-        model.solveSteady(evaluator.statesOf(rootOf(first), 0));
+        model.solveSteady(statesOf(rootOf(first), model, 0));
         return model.part(state, part);
     }
 
@@ -302,7 +299,7 @@ public final class ProbabilisticChecker {
         if (error != 0) {
             return error;
         }
-        model.solveExpected(evaluator.statesOf(rootOf(first), 0));
+        model.solveExpected(statesOf(rootOf(first), model, 0));
         return model.isInfinite(state) ? INFINITE : model.part(state, part);
     }
 
@@ -311,8 +308,8 @@ public final class ProbabilisticChecker {
         if (error != 0) {
             return error;
         }
-        int through = evaluator.statesOf(rootOf(first), 0);
-        paths.search(through, evaluator.statesOf(rootOf(second), 0));
+        int through = statesOf(rootOf(first), model, 0);
+        paths.search(through, statesOf(rootOf(second), model, 0));
         int length = paths.lengthFrom(state);
         if (length == 0 || i >= length) {
             return NONE;
@@ -325,8 +322,8 @@ public final class ProbabilisticChecker {
         if (error != 0) {
             return error;
         }
-        int through = evaluator.statesOf(rootOf(first), 0);
-        paths.search(through, evaluator.statesOf(rootOf(second), 0));
+        int through = statesOf(rootOf(first), model, 0);
+        paths.search(through, statesOf(rootOf(second), model, 0));
         return paths.lengthFrom(state) == 0 ? NONE : paths.product(state, part);
     }
 
@@ -387,6 +384,54 @@ public final class ProbabilisticChecker {
             return BAD;
         }
         return model.refuses(Math.max(one.longest(), two.longest())) ? REFUSED : 0;
+    }
+
+    /** The states in which a formula holds that stands inside as many others as level tells. */
+    private static int statesOf(Node node, Model model, int level) {
+        if (node == null || model == null || level > MOST_NESTED) {
+            return 0;
+        }
+        Chain chain = model.chain;
+        int first = statesOf(node.first, model, level + 1);
+        int second = statesOf(node.second, model, level + 1);
+        switch (node.kind) {
+            case 't':
+                return chain.all();
+            case 'a':
+            case 'b':
+            case 'c':
+            case 'd':
+                return chain.labelled(node.kind - 'a');
+            case '!':
+                return chain.all() & ~first;
+            case '&':
+                return first & second;
+            case '|':
+                return first | second;
+            case 'X':
+                model.solveStep(first);
+                break;
+            case 'F':
+                model.solveUntil(chain.all(), first);
+                break;
+            case 'G':
+                model.solveUntil(chain.all(), chain.all() & ~first);
+                model.complement();
+                break;
+            case 'U':
+                model.solveUntil(first, second);
+                break;
+            case 'B':
+                model.countWithin(first, second, node.steps);
+                break;
+            case 'S':
+                model.solveSteady(first);
+                break;
+            default:
+                model.solveExpected(first);
+                break;
+        }
+        return model.fulfilling(node.bound);
     }
 
     private static boolean contains(int set, int state) {
@@ -861,7 +906,7 @@ public final class ProbabilisticChecker {
         }
 
         /** Reads a formula inside as many others as level tells; behind an error the answer means nothing. */
-        Node readFormula(int level) {
+        private Node readFormula(int level) {
             char sign = peek();
             if (sign == 't' || sign >= 'a' && sign <= 'd') {
                 at++;
@@ -871,7 +916,7 @@ public final class ProbabilisticChecker {
                 failed = true;
             }
             if (skip('!')) {
-                return new Node('!', null, 0, readFormula(level + 1), null);
+                return readOpposite(level);
             }
             if (skip('(')) {
                 return readPair(level);
@@ -887,6 +932,10 @@ public final class ProbabilisticChecker {
             }
             failed = true;
             return null;
+        }
+
+        private Node readOpposite(int level) {
+            return new Node('!', null, 0, readFormula(level + 1), null);
         }
 
         private Node readPair(int level) {
@@ -1276,64 +1325,6 @@ public final class ProbabilisticChecker {
                 tops[state] = top / divisor;
                 bottoms[state] = bottom / divisor;
             }
-        }
-    }
-
-    /** Tells in which states a formula holds. */
-    private static final class Evaluator {
-        private final Chain chain;
-        private final Model model;
-
-        Evaluator(Chain ownChain, Model ownModel) {
-            chain = ownChain;
-            model = ownModel;
-        }
-
-        /** The states in which a formula holds that stands inside as many others as level tells. */
-        int statesOf(Node node, int level) {
-            if (node == null || level > MOST_NESTED) {
-                return 0;
-            }
-            int first = statesOf(node.first, level + 1);
-            int second = statesOf(node.second, level + 1);
-            switch (node.kind) {
-                case 't':
-                    return chain.all();
-                case 'a':
-                case 'b':
-                case 'c':
-                case 'd':
-                    return chain.labelled(node.kind - 'a');
-                case '!':
-                    return chain.all() & ~first;
-                case '&':
-                    return first & second;
-                case '|':
-                    return first | second;
-                case 'X':
-                    model.solveStep(first);
-                    break;
-                case 'F':
-                    model.solveUntil(chain.all(), first);
-                    break;
-                case 'G':
-                    model.solveUntil(chain.all(), chain.all() & ~first);
-                    model.complement();
-                    break;
-                case 'U':
-                    model.solveUntil(first, second);
-                    break;
-                case 'B':
-                    model.countWithin(first, second, node.steps);
-                    break;
-                case 'S':
-                    model.solveSteady(first);
-                    break;
-                default:
-                    model.solveExpected(first);
-                    break;
-            }
-            return model.fulfilling(node.bound);
         }
     }
 

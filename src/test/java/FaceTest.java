@@ -7,6 +7,8 @@ import java.nio.file.Path;
 import java.util.Arrays;
 import java.util.TreeSet;
 import java.util.Set;
+import java.util.regex.Matcher;
+import java.util.regex.Pattern;
 
 /** The constants, the public face as the document has it, and the rules of LANGUAGE.md that a text search can see. */
 public final class FaceTest {
@@ -24,12 +26,16 @@ public final class FaceTest {
         "int restore()", "int undo()"};
     private static final String[] NOT_ALLOWED = {"throw", "try", "catch", "synchronized", "assert", "import", "package",
         "->", "::", "protected", "instanceof", "Exact", "System.", "equals", "hashCode", "static {"};
+    /** A method up to the brace that stands as far in as its head: indentation, visibility, static, name, body. */
+    private static final Pattern METHOD = Pattern.compile("(?ms)^( {4}| {8})(public |private )?(static )?(?:final )?"
+            + "\\w+(?:\\[\\])? (\\w+)\\([^)]*\\) \\{\n(.*?)^\\1\\}$");
 
     public static void main(String[] args) throws IOException {
         constants();
         publicFace();
         nothingElse();
         words();
+        methods();
         DUE.end();
     }
 
@@ -93,8 +99,7 @@ public final class FaceTest {
 
     private static void words() throws IOException {
         String source = Files.readString(SOURCE);
-        // Comments are free.
-        String code = source.replaceAll("(?s)/\\*.*?\\*/", "").replaceAll("//[^\n]*", "");
+        String code = withoutComments(source);
         for (String word : NOT_ALLOWED) {
             DUE.is("the code has " + word, code.indexOf(word), -1);
         }
@@ -103,5 +108,25 @@ public final class FaceTest {
                 DUE.is("a sign beyond 126 at " + i, source.charAt(i), 0);
             }
         }
+    }
+
+    /** Rules 8 and 11: a method that calls itself is private and static, and methods are short. */
+    private static void methods() throws IOException {
+        Matcher heads = METHOD.matcher(withoutComments(Files.readString(SOURCE)));
+        int found = 0;
+        while (heads.find()) {
+            found++;
+            String body = heads.group(5);
+            String name = heads.group(4);
+            boolean callsItself = Pattern.compile("(?<![.\\w])" + name + "\\(").matcher(body).find();
+            DUE.holds("a method that calls itself is private and static: " + name,
+                    !callsItself || "private ".equals(heads.group(2)) && "static ".equals(heads.group(3)));
+            DUE.holds("at most sixty lines: " + name, body.lines().count() <= 60);
+        }
+        DUE.holds("methods found: " + found, found > FACE.length);
+    }
+
+    private static String withoutComments(String source) {
+        return source.replaceAll("(?s)/\\*.*?\\*/", "").replaceAll("//[^\n]*", "");
     }
 }
